@@ -52,14 +52,19 @@ final class Tapes {
         tape.cut(0);
         for (int at = 0; at < bytes.length; at += 8) {
             int n = Math.min(8, bytes.length - at);
-            long v = 0;
-            for (int k = 0; k < n; k++) {
-                v = v << 8 | bytes[at + k];
-            }
-            if (!tape.give(v, n)) {
+            if (!tape.give(packed(bytes, at, n), n)) {
                 throw new IllegalStateException("no room for what the test gives");
             }
         }
+    }
+
+    /** What give takes for n of these bytes, from one on. */
+    static long packed(int[] bytes, int from, int n) {
+        long v = 0;
+        for (int k = from; k < from + n; k++) {
+            v = v << 8 | bytes[k];
+        }
+        return v;
     }
 
     static DemoTape given(int[] bytes) {
