@@ -1,10 +1,17 @@
+import java.util.Arrays;
+
 /** Promise 11, READING and FAULTS, and of promise 15 the fault and its place. */
 public final class ReadTest {
     private static final Due DUE = new Due();
+    /** What is seen of the START of Tapes.HEAD. */
+    private static final String HEAD = " start -2 258 63 255";
 
     public static void main(String[] args) {
         readsWhatIsWritten();
-        readsEdges();
+        readsNoGroups();
+        readsEdgesOfStart();
+        readsEdgesOfInput();
+        readsEdgesOfCount();
         readsLongest();
         fault1AtEveryEnd();
         fault2AtEachPlace();
@@ -16,23 +23,43 @@ public final class ReadTest {
         fault6Check();
         fault7LeftBehind();
         firstFaultWins();
-        faultChangesNothingElse();
         laterReadForgetsTheFault();
         DUE.finish();
     }
 
+    /** The fault and its place, and that an empty RECORD, one of a few INPUTS and a full one stay. */
     private static void dueFault(String what, int[] bytes, int fault, int place) {
-        DemoTape tape = Tapes.given(bytes);
+        for (int count : new int[] {0, 2, 1024}) {
+            DemoTape tape = new DemoTape();
+            tape.start(1, 2, 3, 4);
+            tape.record(1, 2, 3, true, count);
+            tape.write();
+            Tapes.giveAll(tape, bytes);
+            String output = Tapes.seenBytes(tape, false);
+            dueAnswers(what, tape, fault, place);
+            DUE.same(what + ": INPUT BYTES", Tapes.seenBytes(tape, true), Tapes.textOf(true, bytes));
+            DUE.same(what + ": OUTPUT BYTES", Tapes.seenBytes(tape, false), output);
+            DUE.is(what + ": INPUTS", tape.look(0), count);
+            tape.write();
+            DUE.same(what + ": THE RECORD", Tapes.seenBytes(tape, false), output);
+        }
+    }
+
+    private static void dueNoFault(String what, int[] bytes) {
+        dueAnswers(what, Tapes.given(bytes), 0, -1);
+    }
+
+    private static void dueAnswers(String what, DemoTape tape, int fault, int place) {
         DUE.is(what + ": read()", tape.read(), fault);
         DUE.is(what + ": the fault", tape.look(4), fault);
         DUE.is(what + ": its place", tape.look(5), place);
     }
 
     private static void dueRead(String what, int[] bytes, String record) {
-        dueFault(what, bytes, 0, -1);
         DemoTape tape = Tapes.given(bytes);
+        tape.start(9, 9, 9, 9);
         tape.record(3, 3, 3, true, 5);
-        tape.read();
+        dueAnswers(what, tape, 0, -1);
         DUE.same(what, Tapes.seenRecord(tape), record);
         DUE.same(what + ": the bytes stay", Tapes.seenBytes(tape, true), Tapes.textOf(true, bytes));
         DUE.is(what + ": OUTPUT BYTES", tape.look(2), 0);
@@ -58,13 +85,50 @@ public final class ReadTest {
         DUE.same("THE RECORD is that again", Tapes.seenRecord(tape), record);
     }
 
-    private static void readsEdges() {
-        dueRead("no GROUPS", Tapes.whole(), " start -2 258 63 255");
-        dueRead("START's edges", Tapes.checked(new int[] {77, 68, 1, 128, 0, 127, 255, 0, 0, 0}),
-                " start -32768 32767 0 0");
-        dueRead("GROUPS at the edges", Tapes.whole(1, 0, 65, 128, 129, 64, 64, 15, 193, 64, 63, 16, 129, 0, 128, 32,
-                130, 128, 0, 0), " start -2 258 63 255 (-64 0 0 0) (64 0 0 1) (0 0 -1 0) (0 -1 0 1) (-64 64 16 0)"
-                + " (64 -64 -16 0) (64 -64 -16 0)");
+    private static void readsNoGroups() {
+        dueRead("no GROUPS", Tapes.whole(), HEAD);
+        dueRead("no GROUPS, all 0", Tapes.checked(new int[] {77, 68, 1, 0, 0, 0, 0, 0, 0, 0}), " start 0 0 0 0");
+    }
+
+    private static void readsEdgesOfStart() {
+        for (int[] p : Tapes.PLACES) {
+            dueRead("x of " + p[0], Tapes.checked(new int[] {77, 68, 1, p[1], p[2], 1, 2, 0, 0, 0}),
+                    " start " + p[0] + " 258 0 0");
+            dueRead("y of " + p[0], Tapes.checked(new int[] {77, 68, 1, 1, 2, p[1], p[2], 0, 0, 0}),
+                    " start 258 " + p[0] + " 0 0");
+        }
+        for (int angle : new int[] {0, 1, 62, 63}) {
+            for (int sector : new int[] {0, 1, 127, 128, 254, 255}) {
+                dueRead("ANGLE and SECTOR", Tapes.checked(new int[] {77, 68, 1, 0, 0, 0, 0, angle, sector, 0}),
+                        " start 0 0 " + angle + " " + sector);
+            }
+        }
+    }
+
+    private static void readsEdgesOfInput() {
+        for (int first : new int[] {1, 65}) {
+            int uses = first / 64;
+            for (int amount : new int[] {0, 1, 63, 64, 65, 127, 128}) {
+                String tail = " " + uses + ")";
+                dueRead("ahead " + amount, Tapes.whole(first, amount), HEAD + " (" + (amount - 64) + " 0 0" + tail);
+                dueRead("ahead " + amount + " with a side", Tapes.whole(first + 128, amount, 65, 15),
+                        HEAD + " (" + (amount - 64) + " 1 -1" + tail);
+                dueRead("aside " + amount, Tapes.whole(first + 128, 64, amount, 15),
+                        HEAD + " (0 " + (amount - 64) + " -1" + tail);
+            }
+            for (int turn : new int[] {0, 1, 15, 16, 17, 31, 32}) {
+                dueRead("turn " + turn, Tapes.whole(first + 128, 64, 65, turn),
+                        HEAD + " (0 1 " + (turn - 16) + " " + uses + ")");
+            }
+        }
+    }
+
+    private static void readsEdgesOfCount() {
+        for (int n : new int[] {1, 2, 62, 63}) {
+            dueRead("a GROUP of " + n, Tapes.whole(n, 65), HEAD + " (1 0 0 0)".repeat(n));
+            dueRead("a GROUP of " + n + " that USES, with a side", Tapes.whole(n + 192, 65, 64, 15),
+                    HEAD + " (1 0 -1 1)".repeat(n));
+        }
     }
 
     private static void readsLongest() {
@@ -78,19 +142,29 @@ public final class ReadTest {
         DUE.is("USES", tape.look(6), 512);
         DUE.is("the last INPUT", tape.input(1023, 1), -64);
         DUE.is("the first INPUT", tape.input(0, 1), 64);
+        tape.undo(1023);
         tape.poke(4105, 1);
-        DUE.is("a GROUP where the end is due", tape.read(), 5);
-        DUE.is("its place", tape.look(5), 4105);
+        dueAnswers("a GROUP where the end of the longest is due", tape, 5, 4105);
+        tape.turnOver();
+        tape.cut(4109);
+        dueAnswers("the longest without its last byte", tape, 1, 4109);
+        tape.give(0, 1);
+        dueAnswers("the longest with another last byte", tape, 6, 4109);
+        tape.turnOver();
+        tape.give(0, 1);
+        dueAnswers("the longest with a byte behind it", tape, 7, 4110);
+        DUE.is("THE RECORD stays at each of them", tape.look(0), 1);
+        tape.cut(4110);
+        dueAnswers("the longest once more", tape, 0, -1);
+        DUE.is("INPUTS", tape.look(0), 1024);
     }
 
     private static void fault1AtEveryEnd() {
         int[] bytes = Tapes.whole(1, 64, 194, 64, 65, 16);
         for (int n = 0; n < bytes.length; n++) {
-            DemoTape tape = Tapes.given(bytes);
-            tape.cut(n);
-            DUE.is("read() of the first " + n, tape.read(), 1);
-            DUE.is("its place", tape.look(5), n);
+            dueFault("the first " + n, Arrays.copyOf(bytes, n), 1, n);
         }
+        dueNoFault("all of them", bytes);
     }
 
     private static void fault2AtEachPlace() {
@@ -98,11 +172,10 @@ public final class ReadTest {
         for (int k = 0; k < 3; k++) {
             for (int other = 0; other < 256; other++) {
                 if (other != bytes[k]) {
-                    DemoTape tape = Tapes.given(bytes);
-                    tape.poke(k, other);
-                    tape.cut(other % 2 == 0 ? k + 1 : bytes.length);
-                    DUE.is("read() with " + other + " at " + k, tape.read(), 2);
-                    DUE.is("its place", tape.look(5), k);
+                    int[] all = bytes.clone();
+                    all[k] = other;
+                    dueFault(other + " at " + k, all, 2, k);
+                    dueFault(other + " at the end, " + k, Arrays.copyOf(all, k + 1), 2, k);
                 }
             }
         }
@@ -132,8 +205,8 @@ public final class ReadTest {
         dueFault("both 0 of a second", Tapes.whole(2, 64, 129, 1, 64, 16), 3, 14);
         dueFault("both 0 and the INPUT ahead", Tapes.whole(2, 64, 129, 64, 64, 16), 3, 14);
         dueFault("both 0 at the end", Tapes.join(Tapes.HEAD, new int[] {129, 64, 64, 16}), 3, 12);
-        dueFault("aside alone is 0", Tapes.whole(129, 64, 64, 17), 0, -1);
-        dueFault("turn alone is 0", Tapes.whole(129, 64, 63, 16), 0, -1);
+        dueNoFault("aside alone is 0", Tapes.whole(129, 64, 64, 17));
+        dueNoFault("turn alone is 0", Tapes.whole(129, 64, 63, 16));
     }
 
     private static void fault3GroupOfNone() {
@@ -149,25 +222,25 @@ public final class ReadTest {
         dueFault("1 and 1", Tapes.whole(1, 64, 1, 64), 4, 11);
         dueFault("62 and 1", Tapes.whole(62, 64, 1, 64), 4, 11);
         dueFault("1 and 63", Tapes.whole(1, 64, 63, 64), 4, 11);
-        dueFault("63 and 1", Tapes.whole(63, 64, 1, 64), 0, -1);
-        dueFault("63 and 63", Tapes.whole(63, 64, 63, 64), 0, -1);
+        dueNoFault("63 and 1", Tapes.whole(63, 64, 1, 64));
+        dueNoFault("63 and 63", Tapes.whole(63, 64, 63, 64));
         dueFault("63, 1 and 1", Tapes.whole(63, 64, 1, 64, 1, 64), 4, 13);
-        dueFault("63 and 1 that USE", Tapes.whole(127, 64, 65, 64), 0, -1);
+        dueNoFault("63 and 1 that USE", Tapes.whole(127, 64, 65, 64));
         dueFault("with a side", Tapes.whole(129, 64, 65, 16, 130, 64, 65, 16), 4, 13);
         dueFault("with a side, at the end", Tapes.join(Tapes.HEAD, new int[] {129, 1, 2, 3, 129, 1, 2, 3}), 4, 13);
         dueFault("with a side that is not all there",
                 Tapes.join(Tapes.HEAD, new int[] {129, 1, 2, 3, 129, 1, 2}), 1, 16);
-        dueFault("another ahead", Tapes.whole(1, 64, 1, 65), 0, -1);
-        dueFault("another aside", Tapes.whole(129, 64, 65, 16, 129, 64, 66, 16), 0, -1);
-        dueFault("another turn", Tapes.whole(129, 64, 65, 16, 129, 64, 65, 17), 0, -1);
-        dueFault("one that USES", Tapes.whole(1, 64, 65, 64), 0, -1);
-        dueFault("one that has a side", Tapes.whole(1, 64, 129, 64, 64, 15), 0, -1);
-        dueFault("not the one just ahead", Tapes.whole(1, 64, 1, 65, 1, 64), 0, -1);
+        dueNoFault("another ahead", Tapes.whole(1, 64, 1, 65));
+        dueNoFault("another aside", Tapes.whole(129, 64, 65, 16, 129, 64, 66, 16));
+        dueNoFault("another turn", Tapes.whole(129, 64, 65, 16, 129, 64, 65, 17));
+        dueNoFault("one that USES", Tapes.whole(1, 64, 65, 64));
+        dueNoFault("one that has a side", Tapes.whole(1, 64, 129, 64, 64, 15));
+        dueNoFault("not the one just ahead", Tapes.whole(1, 64, 1, 65, 1, 64));
     }
 
     private static void fault5TooMany() {
         int[] full = Tapes.repeated(16, 63, 64);
-        dueFault("1024", Tapes.whole(Tapes.join(full, new int[] {16, 64})), 0, -1);
+        dueNoFault("1024", Tapes.whole(Tapes.join(full, new int[] {16, 64})));
         dueFault("1025", Tapes.whole(Tapes.join(full, new int[] {17, 64})), 5, 41);
         dueFault("1008 + 63", Tapes.whole(Tapes.join(full, new int[] {63, 64})), 5, 41);
         dueFault("1024 + 1", Tapes.whole(Tapes.join(full, new int[] {16, 64, 1, 65})), 5, 43);
@@ -185,10 +258,7 @@ public final class ReadTest {
                 int[] other = bytes.clone();
                 other[place] ^= bit;
                 dueFault("another CHECK", other, 6, place);
-                DemoTape tape = Tapes.given(other);
-                tape.cut(place + 1);
-                DUE.is("another CHECK that is not all there", tape.read(), 6);
-                DUE.is("its place", tape.look(5), place);
+                dueFault("another CHECK that is not all there", Arrays.copyOf(other, place + 1), 6, place);
             }
         }
         int[] twice = bytes.clone();
@@ -214,27 +284,6 @@ public final class ReadTest {
         dueFault("split and amount behind", Tapes.whole(1, 64, 1, 64, 1, 200), 4, 11);
         dueFault("amount and split behind", Tapes.whole(1, 200, 1, 64, 1, 64), 3, 10);
         dueFault("aside and turn", Tapes.whole(129, 64, 200, 200), 3, 11);
-    }
-
-    private static void faultChangesNothingElse() {
-        int[][] faultyByNumber = {{}, {1}, Tapes.checked(new int[] {77, 68, 1, 0, 0, 0, 0, 64, 0, 0}),
-            Tapes.whole(1, 64, 1, 64), Tapes.whole(Tapes.repeated(17, 63, 64)),
-            Tapes.join(Tapes.HEAD, new int[] {5, 5, 0, 1}), Tapes.join(Tapes.whole(1, 1), new int[] {1})};
-        for (int k = 0; k < faultyByNumber.length; k++) {
-            DemoTape tape = new DemoTape();
-            tape.start(1, 2, 3, 4);
-            tape.record(1, 2, 3, true, 2);
-            tape.write();
-            Tapes.giveAll(tape, faultyByNumber[k]);
-            String before = Tapes.seenRecord(tape) + Tapes.seenBytes(tape, false) + Tapes.seenBytes(tape, true);
-            int fault = k + 1;
-            DUE.is("read() with fault " + fault, tape.read(), fault);
-            DUE.same("fault " + fault + " changes nothing", Tapes.seenRecord(tape) + Tapes.seenBytes(tape, false)
-                    + Tapes.seenBytes(tape, true), before);
-            DUE.is("record goes on behind fault " + fault, tape.record(7, 7, 7, false, 1), 3);
-            DUE.same("INPUTS behind fault " + fault, Tapes.seenRecord(tape),
-                    " start 1 2 3 4 (1 2 3 1) (1 2 3 1) (7 7 7 0)");
-        }
     }
 
     private static void laterReadForgetsTheFault() {

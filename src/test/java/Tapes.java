@@ -5,6 +5,10 @@ final class Tapes {
     /** Mark and a START of -2, 258, 63, 255. */
     static final int[] HEAD = {77, 68, 1, 255, 254, 1, 2, 63, 255};
 
+    /** An x or y, and its high and its low byte. */
+    static final int[][] PLACES = {{-32768, 128, 0}, {-32767, 128, 1}, {-257, 254, 255}, {-256, 255, 0},
+        {-255, 255, 1}, {-1, 255, 255}, {0, 0, 0}, {1, 0, 1}, {255, 0, 255}, {256, 1, 0}, {32767, 127, 255}};
+
     private Tapes() {
     }
 

@@ -4,13 +4,17 @@ public final class WriteTest {
 
     public static void main(String[] args) {
         emptyRecord();
-        startInBytes();
+        xAndYAsTwoBytes();
+        angleAndSectorAsOneByte();
         groupBytes();
         groupsOf63();
-        longestRecord();
+        sideIsWrittenBesideNaught();
+        mostBytes();
+        fullRecordOfOneInput();
+        checkAtItsModulus();
         highCheck();
         outputStaysUntilWritten();
-        byteAtRefuses();
+        byteAtBothEnds();
         DUE.finish();
     }
 
@@ -24,15 +28,24 @@ public final class WriteTest {
         dueBytes("an empty RECORD", new DemoTape(), new int[] {77, 68, 1, 0, 0, 0, 0, 0, 0, 0, 5, 120, 0, 147});
     }
 
-    private static void startInBytes() {
-        int[][] starts = {{0, 255, 0, 255}, {256, 32767, 63, 0}, {-1, -32768, 1, 1}, {-256, -257, 62, 128}};
-        int[][] bytes = {{0, 0, 0, 255, 0, 255}, {1, 0, 127, 255, 63, 0}, {255, 255, 128, 0, 1, 1},
-            {255, 0, 254, 255, 62, 128}};
-        for (int k = 0; k < starts.length; k++) {
+    /** Each of x and y alone, so that neither can stand in the other's bytes. */
+    private static void xAndYAsTwoBytes() {
+        for (int[] p : Tapes.PLACES) {
             DemoTape tape = new DemoTape();
-            int[] s = starts[k];
-            tape.start(s[0], s[1], s[2], s[3]);
-            dueBytes("START " + k, tape, Tapes.checked(new int[] {77, 68, 1}, bytes[k], new int[] {0}));
+            tape.start(p[0], 258, 0, 0);
+            dueBytes("x of " + p[0], tape, Tapes.checked(new int[] {77, 68, 1, p[1], p[2], 1, 2, 0, 0, 0}));
+            tape.start(258, p[0], 0, 0);
+            dueBytes("y of " + p[0], tape, Tapes.checked(new int[] {77, 68, 1, 1, 2, p[1], p[2], 0, 0, 0}));
+        }
+    }
+
+    private static void angleAndSectorAsOneByte() {
+        for (int angle : new int[] {0, 1, 62, 63}) {
+            for (int sector : new int[] {0, 1, 127, 128, 254, 255}) {
+                DemoTape tape = new DemoTape();
+                tape.start(0, 0, angle, sector);
+                dueBytes("ANGLE and SECTOR", tape, Tapes.checked(new int[] {77, 68, 1, 0, 0, 0, 0, angle, sector, 0}));
+            }
         }
     }
 
@@ -68,16 +81,56 @@ public final class WriteTest {
         dueBytes("equal ones that are recorded apart", tape, Tapes.whole(63, 65, 7, 65, 1, 66, 1, 65));
     }
 
-    private static void longestRecord() {
-        DemoTape tape = Tapes.longest();
-        int[] bytes = Tapes.checked(new int[] {77, 68, 1, 0, 0, 0, 0, 0, 0},
-                Tapes.repeated(512, 193, 128, 128, 32, 129, 0, 0, 0), new int[] {0});
-        DUE.is("write() of the longest", tape.write(), 4110);
-        int[] places = {0, 9, 10, 11, 12, 13, 2057, 4097, 4101, 4104, 4105, 4106, 4107, 4108, 4109};
-        for (int k : places) {
-            DUE.is("byteAt(" + k + ", false) of the longest", tape.byteAt(k, false), bytes[k]);
+    /** An aside or a turn of 1 to either side is written; two of 0 are not. */
+    private static void sideIsWrittenBesideNaught() {
+        int[][] sides = {{-1, 0}, {1, 0}, {0, -1}, {0, 1}, {-1, 1}, {-64, 0}, {64, 0}, {0, -16}, {0, 16}};
+        for (int[] side : sides) {
+            DemoTape tape = new DemoTape();
+            tape.start(-2, 258, 63, 255);
+            Tapes.one(tape, 0, side[0], side[1], true);
+            dueBytes("a side", tape, Tapes.whole(193, 64, side[0] + 64, side[1] + 16));
         }
-        DUE.is("none behind it", tape.byteAt(4110, false), -1);
+        for (int ahead : new int[] {-64, 0, 64}) {
+            DemoTape tape = new DemoTape();
+            tape.start(-2, 258, 63, 255);
+            Tapes.one(tape, ahead, 0, 0, true);
+            dueBytes("no side", tape, Tapes.whole(65, ahead + 64));
+        }
+    }
+
+    /** 1024 GROUPS of four bytes are the most bytes that there can be. */
+    private static void mostBytes() {
+        dueBytes("1024 GROUPS", Tapes.longest(), Tapes.checked(new int[] {77, 68, 1, 0, 0, 0, 0, 0, 0},
+                Tapes.repeated(512, 193, 128, 128, 32, 129, 0, 0, 0), new int[] {0}));
+    }
+
+    private static void fullRecordOfOneInput() {
+        DemoTape tape = new DemoTape();
+        tape.start(-2, 258, 63, 255);
+        tape.record(1, 0, 0, false, 1024);
+        dueBytes("1024 equal ones", tape, Tapes.whole(Tapes.join(Tapes.repeated(16, 63, 65), new int[] {16, 65})));
+    }
+
+    /** The two sums of a CHECK one below 65521, at it, and one beyond it. */
+    private static void checkAtItsModulus() {
+        int[] lowest = {65520, 0, 1};
+        for (int k = 0; k < lowest.length; k++) {
+            DUE.is("a of a CHECK", checkPart(25 + k, 0, 0, 0, 136, 2), lowest[k]);
+        }
+        DUE.is("b of 65520", checkPart(134, 39, 9, 3, 7, 0), 65520);
+        DUE.is("b of 65521", checkPart(178, 0, 2, 2, 7, 0), 0);
+        DUE.is("b of 65522", checkPart(433, 0, 2, 2, 7, 0), 1);
+    }
+
+    /** Two bytes of the CHECK, from one of them on, of a RECORD with this START and so many INPUTS, each a GROUP. */
+    private static int checkPart(int x, int y, int angle, int sector, int inputs, int from) {
+        DemoTape tape = new DemoTape();
+        tape.start(x, y, angle, sector);
+        for (int k = 0; k < inputs; k++) {
+            Tapes.one(tape, 64 - k % 2, 64, 16, true);
+        }
+        int at = tape.write() - 4 + from;
+        return tape.byteAt(at, false) * 256 + tape.byteAt(at + 1, false);
     }
 
     /** Sums beyond 65521, with a highest byte above 127. */
@@ -116,16 +169,26 @@ public final class WriteTest {
         DUE.same("THE RECORD stays", Tapes.seenRecord(tape), " start 1 1 1 1");
     }
 
-    private static void byteAtRefuses() {
-        DemoTape tape = new DemoTape();
-        tape.write();
-        tape.give(5, 2);
-        for (int k : new int[] {-1, 14, 8191, 8192, Integer.MIN_VALUE, Integer.MAX_VALUE}) {
-            DUE.is("byteAt(" + k + ", false)", tape.byteAt(k, false), -1);
-            DUE.is("byteAt(" + k + ", true)", tape.byteAt(k, true), -1);
+    private static void byteAtBothEnds() {
+        DemoTape none = new DemoTape();
+        DemoTape few = new DemoTape();
+        few.write();
+        few.turnOver();
+        DemoTape most = Tapes.longest();
+        most.write();
+        most.turnOver();
+        for (DemoTape tape : new DemoTape[] {none, few, most}) {
+            for (boolean into : new boolean[] {false, true}) {
+                int size = tape.look(into ? 3 : 2);
+                for (int k : new int[] {-1, size, size + 1, 8191, 8192, Integer.MIN_VALUE, Integer.MAX_VALUE}) {
+                    DUE.is("byteAt(" + k + ", " + into + ") of " + size, tape.byteAt(k, into), -1);
+                }
+                DUE.is("the first of " + size, tape.byteAt(0, into), size == 0 ? -1 : 77);
+                DUE.yes("the last of " + size, (tape.byteAt(size - 1, into) == -1) == (size == 0));
+            }
         }
-        DUE.is("byteAt(2, true) of two", tape.byteAt(2, true), -1);
-        DUE.is("byteAt(1, true) of two", tape.byteAt(1, true), 5);
-        DUE.is("byteAt(1, false)", tape.byteAt(1, false), 68);
+        few.give(5, 1);
+        DUE.is("byteAt(14, true)", few.byteAt(14, true), 5);
+        DUE.is("byteAt(14, false)", few.byteAt(14, false), -1);
     }
 }
